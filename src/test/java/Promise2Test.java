@@ -4,6 +4,7 @@ final class Promise2Test {
         order();
         highBytes();
         full();
+        oneByteTooMany();
         fullToTheLastByte();
         Checks.finish();
     }
@@ -38,6 +39,15 @@ final class Promise2Test {
         Checks.due("CHARACTERS", x.count(3), 8187);
         Checks.due("WORDS", x.count(2), 4084);
         Checks.due("feed after cut", x.feed(0, 0, 0, 0, 0), 20);
+    }
+
+    private static void oneByteTooMany() {
+        WordChain x = new WordChain();
+        Checks.feed(x, new byte[8173]);
+        Checks.refused("feed to 8193", IndexOutOfBoundsException.class, () -> x.feed(1, 2, 3, 4, 5));
+        Checks.due("length after refusal", x.count(0), 8173);
+        Checks.due("one byte less", x.end(19), 8172);
+        Checks.due("feed to 8192", x.feed(1, 2, 3, 4, 5), 8192);
     }
 
     private static void fullToTheLastByte() {

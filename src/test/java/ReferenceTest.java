@@ -63,7 +63,33 @@ final class ReferenceTest {
             compareLarge(madeBytes(random, 8192 - round), random);
             compareLarge(Checks.utf8(joined(random, new String[] {"x", "_", "1", "'s"}, 4000)), random);
         }
+        compareShortWords(random);
+        compareIdeographs(random);
         Checks.finish();
+    }
+
+    /** All words of three letters, so that none is taken for one that says nothing. */
+    private static void compareShortWords(Random random) {
+        for (char a = 'a'; a <= 'z'; a++) {
+            StringBuilder text = new StringBuilder();
+            for (char b = 'a'; b <= 'z'; b++) {
+                for (char c = 'a'; c <= 'z'; c++) {
+                    text.append(a).append(b).append(c).append(' ');
+                }
+                text.append(a).append(b).append(' ').append(a).append(' ');
+            }
+            compareLarge(Checks.utf8(text.toString()), random);
+        }
+    }
+
+    private static void compareIdeographs(Random random) {
+        for (int from = 0x4E00; from <= 0x9FFF; from += 2700) {
+            StringBuilder text = new StringBuilder();
+            for (int c = from; c < from + 2700 && c <= 0x9FFF; c++) {
+                text.append((char) c);
+            }
+            compareLarge(Checks.utf8(text.toString()), random);
+        }
     }
 
     private static String madeWord(Random random) {
