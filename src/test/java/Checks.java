@@ -10,15 +10,23 @@ final class Checks {
 
     private static int made = 0;
     private static int wrong = 0;
+    private static int sentences = 0;
+    private static String sentence = "";
 
     private Checks() {
+    }
+
+    /** The sentence of the document that the checks from here on would find broken. */
+    static void about(String words) {
+        sentence = "[" + words + "] ";
+        sentences++;
     }
 
     static void due(String what, Object got, Object want) {
         made++;
         if (!Objects.equals(got, want)) {
             wrong++;
-            System.out.println(what + ": got " + got + ", due is " + want);
+            System.out.println(sentence + what + ": got " + got + ", due is " + want);
         }
     }
 
@@ -33,7 +41,7 @@ final class Checks {
     }
 
     static void finish() {
-        System.out.println(made + " checks, " + wrong + " wrong");
+        System.out.println(sentences + " sentences, " + made + " checks, " + wrong + " wrong");
         if (wrong != 0 || made == 0) {
             System.exit(1);
         }
@@ -72,9 +80,14 @@ final class Checks {
         x.feed(packed[0], packed[1], packed[2], packed[3], packed[4]);
     }
 
-    static WordChain cut(byte[] text) {
+    static WordChain fed(byte[] text) {
         WordChain x = new WordChain();
         feed(x, text);
+        return x;
+    }
+
+    static WordChain cut(byte[] text) {
+        WordChain x = fed(text);
         x.cut();
         return x;
     }
@@ -99,6 +112,10 @@ final class Checks {
             all.append(i == 0 ? "" : " ").append(x.token(i, 0)).append(':').append(word(x, i));
         }
         return all.toString();
+    }
+
+    static String counts(WordChain x) {
+        return x.count(0) + " " + x.count(1) + " " + x.count(2) + " " + x.count(3) + " " + x.count(4);
     }
 
     static void dueTokens(String text, String want) {

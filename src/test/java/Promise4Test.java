@@ -1,119 +1,98 @@
-/** cut: WORDS, their endings and their TOKENS. */
+/** cut: INPUT becomes TOKENS, and is empty then. */
 final class Promise4Test {
     public static void main(String[] args) {
-        replaces();
-        joining();
-        between();
-        ideographs();
-        owners();
-        lowering();
-        silentWords();
-        longWords();
+        inputIsCut();
+        emptyThen();
+        takeThePlace();
+        cutOfNothing();
+        largeThenSmall();
+        howMany();
         Checks.finish();
     }
 
-    private static void replaces() {
+    private static void inputIsCut() {
+        Checks.about("INPUT is cut");
+        Checks.dueTokens("The rivers of Europe's plains, e.g. the Rhine, are 1,233 km long.",
+            "1:river 3:europ 4:plain 5:e.g 7:rhine 9:1,233 10:km 11:long");
+        Checks.dueTokens("x", "0:x");
+        Checks.dueTokens(" ", "");
+        Checks.dueTokens("the", "");
+    }
+
+    private static void emptyThen() {
+        Checks.about("INPUT is cut, and empty then");
+        WordChain x = Checks.fed(Checks.utf8("rivers and lakes"));
+        Checks.due("length before", x.count(0), 16);
+        x.cut();
+        Checks.due("length then", x.count(0), 0);
+        Checks.refused("end(19) then", IllegalArgumentException.class, () -> x.end(19));
+        Checks.due("feed then", x.feed(0x68696C6C, 0, 0, 0, 0), 20);
+        x.cut();
+        Checks.due("none of the old bytes", Checks.tokens(x), "0:hill");
+        Checks.due("none of the old CHARACTERS", x.count(3), 20);
+        WordChain full = Checks.cut("x".repeat(8192));
+        Checks.due("length of a full one then", full.count(0), 0);
+        Checks.due("feed to it then", full.feed(0, 0, 0, 0, 0), 20);
+    }
+
+    private static void takeThePlace() {
+        Checks.about("its TOKENS take the place of those that there were");
         WordChain x = Checks.cut("one two three");
-        Checks.due("INPUT is empty then", x.count(0), 0);
         Checks.feed(x, Checks.utf8("four"));
-        Checks.due("one TOKEN", x.cut(), 1);
-        Checks.due("TOKENS take the place", Checks.tokens(x), "0:four");
-        Checks.due("cut of nothing", x.cut(), 0);
+        Checks.due("still the old ones", Checks.tokens(x), "0:on 1:two 2:three");
+        Checks.due("fewer TOKENS", x.cut(), 1);
+        Checks.due("the new one alone", Checks.tokens(x), "0:four");
+        Checks.refused("an old one", java.util.NoSuchElementException.class, () -> x.token(1, 0));
+        Checks.feed(x, Checks.utf8("the four winds"));
+        Checks.due("more TOKENS", x.cut(), 2);
+        Checks.due("the new ones", Checks.tokens(x), "1:four 2:wind");
+        Checks.due("first of the new ones", x.first(0), 0);
+        Checks.feed(x, Checks.utf8("the of and"));
+        Checks.due("words that all go", x.cut(), 0);
         Checks.due("no TOKENS", Checks.tokens(x), "");
-        Checks.due("no WORDS", x.count(2), 0);
-        Checks.due("no CHARACTERS", x.count(3), 0);
+        Checks.due("counts", Checks.counts(x), "0 0 3 10 0");
     }
 
-    private static void joining() {
-        Checks.dueTokens("a1_b2 _x_ 12ab", "0:a1_b2 1:_x_ 2:12ab");
-        Checks.dueTokens("_ __ ___ x", "0:x");
-        Checks.dueTokens("_1 2_", "0:_1 1:2_");
-        Checks.dueTokens("wi-fi x+y x@y", "0:wi 1:fi 2:x 3:y 4:x 5:y");
-        Checks.dueTokens("\u0439x\u00e9\u03b1z", "0:\u0439x\u00e9\u03b1z");
+    private static void cutOfNothing() {
+        Checks.about("INPUT is cut: an empty one, too");
+        WordChain x = new WordChain();
+        Checks.due("new", x.cut(), 0);
+        Checks.due("counts", Checks.counts(x), "0 0 0 0 0");
+        Checks.feed(x, Checks.utf8("rivers of"));
+        Checks.due("one", x.cut(), 1);
+        Checks.due("counts of one", Checks.counts(x), "0 1 2 9 5");
+        Checks.due("none", x.cut(), 0);
+        Checks.due("counts of none", Checks.counts(x), "0 0 0 0 0");
+        Checks.refused("no TOKEN", java.util.NoSuchElementException.class, () -> x.token(0, 0));
+        Checks.due("none again", x.cut(), 0);
     }
 
-    private static void between() {
-        Checks.dueTokens("x.y 1.2 x.1 1.x", "0:x.y 1:1.2 2:x 3:1 4:1 5:x");
-        Checks.dueTokens("x'y 1'2 x'1 1'x", "0:x'y 1:1'2 2:x 3:1 4:1 5:x");
-        Checks.dueTokens("x\u2019y 1\u20192 x\u20191", "0:x\u2019y 1:1\u20192 2:x 3:1");
-        Checks.dueTokens("x\u00b7y 1\u00b72 x\u00b71", "0:x\u00b7y 1:1 2:2 3:x 4:1");
-        Checks.dueTokens("x,y 1,2 x,1 x;y 1;2", "0:x 1:y 2:1,2 3:x 4:1 5:x 6:y 7:1;2");
-        Checks.dueTokens("x..y 1,,2 x.'y", "0:x 1:y 2:1 3:2 4:x 5:y");
-        Checks.dueTokens(".x. 'y' ,1,", "0:x 1:y 2:1");
-        Checks.dueTokens("x_.y x._y _._ 1_,2", "0:x_ 1:y 2:x 3:_y 4:1_ 5:2");
-        Checks.dueTokens("x.y.z 1.2,3;4 x.y1.2", "0:x.y.z 1:1.2,3;4 2:x.y1.2");
-        Checks.dueTokens("x.", "0:x");
-        Checks.dueTokens("'", "");
+    /** A full INPUT takes 411 calls, so that some ninety are left. */
+    private static void largeThenSmall() {
+        Checks.about("its TOKENS take the place of those that there were: of the most that there can be");
+        WordChain x = Checks.cut("x ".repeat(4096));
+        Checks.feed(x, Checks.utf8("yes x the x"));
+        Checks.due("a few", x.cut(), 3);
+        Checks.due("the few", Checks.tokens(x), "0:ye 1:x 3:x");
+        Checks.due("first among the few", x.first(2), 1);
+        Checks.due("counts of the few", Checks.counts(x), "0 3 4 11 4");
+        WordChain y = Checks.cut("yes x the x");
+        Checks.feed(y, Checks.utf8("z ".repeat(4096)));
+        Checks.due("the most", y.cut(), 4096);
+        Checks.due("counts of the most", Checks.counts(y), "0 4096 4096 8192 4096");
+        Checks.due("first of the last", y.first(4095), 0);
     }
 
-    private static void ideographs() {
-        Checks.dueTokens("\u4e2d\u6587", "0:\u4e2d 1:\u6587");
-        Checks.dueTokens("x\u4e2dy", "0:x 1:\u4e2d 2:y");
-        Checks.dueTokens("_\u4e2d_", "0:\u4e2d");
-        Checks.dueTokens("\u4e2d.\u4e2d", "0:\u4e2d 1:\u4e2d");
-        Checks.dueTokens("\u4dff\u4e00\u9fff\ua000", "0:\u4e00 1:\u9fff");
-    }
-
-    private static void owners() {
-        Checks.dueTokens("John's JOHN'S john\u2019s john\u2019S", "0:john 1:john 2:john 3:john");
-        Checks.dueTokens("x's it's A'S", "0:x");
-        Checks.dueTokens("x's's", "0:x's");
-        Checks.dueTokens("x't x.s x\u00b7s", "0:x't 1:x.s 2:x\u00b7s");
-        Checks.dueTokens("rivers' 1's", "0:river 1:1 2:s");
-        Checks.dueTokens("running's", "0:run");
-    }
-
-    private static void lowering() {
-        Checks.dueTokens("AZaz", "0:azaz");
-        Checks.dueTokens("\u00c0\u00d6\u00d8\u00de\u00df\u00e0\u00ff", "0:\u00e0\u00f6\u00f8\u00fe\u00df\u00e0\u00ff");
-        Checks.dueTokens("x\u00d7y\u00f7z", "0:x 1:y 2:z");
-        Checks.dueTokens("\u0100\u024e\u024f", "0:\u0100\u024e\u024f");
-        Checks.dueTokens("\u0391\u03a1\u03a2\u03a3\u03ab\u03ac\u03ff", "0:\u03b1\u03c1\u03a2\u03c3\u03cb\u03ac\u03ff");
-        Checks.dueTokens("\u0400\u040f\u0410\u042f\u0430\u0460", "0:\u0450\u045f\u0430\u044f\u0430\u0460");
-        Checks.dueTokens("\u0390x\u0386", "0:x");
-        Checks.dueTokens("x\u0250\u04ff\u0500", "0:x 1:\u04ff");
-    }
-
-    private static void silentWords() {
-        String list = "a an and are as at be but by for if in into is it no not of on or such that"
-            + " the their then there these they this to was will with";
-        for (String word : list.split(" ")) {
-            for (String form : new String[] {word, word.toUpperCase(), word + "'s"}) {
-                WordChain x = Checks.cut("x " + form + " y");
-                Checks.due("around <" + form + ">", Checks.tokens(x), "0:x 2:y");
-                Checks.due("WORDS around <" + form + ">", x.count(2), 3);
-            }
-        }
-        Checks.dueTokens("its theirs the_ he 1 i ab", "0:it 1:their 2:the_ 3:he 4:1 5:i 6:ab");
-        Checks.dueTokens("withe the1 th", "0:with 1:the1 2:th");
-    }
-
-    private static void longWords() {
-        String x255 = "x".repeat(255);
-        Checks.due("255", Checks.cut(x255).count(2), 1);
-        Checks.due("256", Checks.cut(x255 + "x").count(2), 2);
-        Checks.due("510", Checks.cut(x255 + x255).count(2), 2);
-        Checks.due("511", Checks.cut(x255 + x255 + "x").count(2), 3);
-        pieces(x255 + "_", 255, 1);
-        pieces("_".repeat(255) + "x", 255, 1);
-        pieces(x255 + "'s", 255, 2);
-        pieces("1".repeat(254) + ",1", 255, 1);
-        pieces(x255 + "y's", 255, 1);
-        pieces("1" + "x".repeat(252) + "'s" + "y", 253, 1);
-        Checks.due("joiners alone", Checks.cut("_".repeat(300)).count(2), 0);
-        WordChain the = Checks.cut(x255 + "the x");
-        Checks.due("a rest that says nothing", the.count(1), 2);
-        Checks.due("its POSITION", the.token(1, 0), 2);
-        Checks.due("a rest is stemmed", Checks.word(Checks.cut(x255 + "hopping"), 1), "hop");
-        Checks.due("a mark begins a rest", Checks.word(Checks.cut("1" + "x".repeat(254) + "'sx"), 1), "'sx");
-    }
-
-    private static void pieces(String text, int... lengths) {
-        WordChain x = Checks.cut(text);
-        Checks.due("pieces of " + text, x.count(1), lengths.length);
-        for (int i = 0; i < lengths.length && i < x.count(1); i++) {
-            Checks.due("length of piece " + i + " of " + text, x.token(i, 1), lengths[i]);
-            Checks.due("POSITION of piece " + i + " of " + text, x.token(i, 0), i);
-        }
+    private static void howMany() {
+        Checks.about("Answers how many");
+        Checks.due("none of none", Checks.fed(Checks.utf8("")).cut(), 0);
+        Checks.due("none of three", Checks.fed(Checks.utf8("the of and")).cut(), 0);
+        Checks.due("one of three", Checks.fed(Checks.utf8("the of sand")).cut(), 1);
+        Checks.due("three of three", Checks.fed(Checks.utf8("thee off sand")).cut(), 3);
+        Checks.due("4095", Checks.fed(Checks.utf8("x ".repeat(4095))).cut(), 4095);
+        Checks.due("4096", Checks.fed(Checks.utf8("x ".repeat(4096))).cut(), 4096);
+        Checks.due("2730 ideographs", Checks.fed(Checks.utf8("\u4e2d".repeat(2730))).cut(), 2730);
+        Checks.due("33 pieces", Checks.fed(Checks.utf8("1".repeat(8192))).cut(), 33);
+        Checks.due("the same ones count, too", Checks.fed(Checks.utf8("x x x")).cut(), 3);
     }
 }
