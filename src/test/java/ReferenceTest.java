@@ -1,4 +1,6 @@
+import java.util.ArrayList;
 import java.util.Arrays;
+import java.util.List;
 import java.util.Random;
 
 /** Compares whole answers with a second program, by patterns over Strings, on made-up texts. */
@@ -31,7 +33,11 @@ final class ReferenceTest {
             compareLarge(madeBytes(random, 8192 - round), random);
             compareLarge(Checks.utf8(joined(random, new String[] {"x", "_", "1", "'s"}, 4000)), random);
         }
+        for (int round = 0; round < 2000; round++) {
+            compareInARow(random);
+        }
         compareShortWords(random);
+        compareNearEndings();
         compareIdeographs(random);
         Checks.finish();
     }
@@ -48,6 +54,37 @@ final class ReferenceTest {
             }
             compareLarge(Checks.utf8(text.toString()), random);
         }
+    }
+
+    /** All endings, and all that are one letter off, behind stems of every m. */
+    private static void compareNearEndings() {
+        String[] stems = {"", "b", "tr", "ay", "ab", "hop", "abb", "abab", "ababb", "byab"};
+        for (String ending : SecondProgram.endings()) {
+            List<String> words = new ArrayList<>();
+            for (String near : near(ending)) {
+                for (String stem : stems) {
+                    words.add(stem + near);
+                }
+            }
+            for (int from = 0; from < words.size(); from += 20) {
+                compare(Checks.utf8(String.join(" ", words.subList(from, Math.min(from + 20, words.size())))));
+            }
+        }
+    }
+
+    private static List<String> near(String ending) {
+        List<String> near = new ArrayList<>();
+        near.add(ending);
+        for (int at = 0; at < ending.length(); at++) {
+            String before = ending.substring(0, at);
+            String behind = ending.substring(at + 1);
+            near.add(before + behind);
+            for (char c : "abeilnostuyz".toCharArray()) {
+                near.add(before + c + behind);
+                near.add(before + c + ending.charAt(at) + behind);
+            }
+        }
+        return near;
     }
 
     private static void compareIdeographs(Random random) {
@@ -80,9 +117,24 @@ final class ReferenceTest {
         return bytes;
     }
 
+    /** Long and short texts, one after the other: none may leave anything behind. */
+    private static void compareInARow(Random random) {
+        WordChain x = new WordChain();
+        for (int text = 0; text < 4; text++) {
+            compare(x, Checks.utf8(joined(random, SIGNS, random.nextInt(25))));
+            compare(x, Checks.utf8(madeWord(random)));
+            compare(x, madeBytes(random, random.nextInt(20)));
+        }
+    }
+
     private static void compare(byte[] bytes) {
+        compare(new WordChain(), bytes);
+    }
+
+    private static void compare(WordChain x, byte[] bytes) {
         SecondProgram.Expected want = SecondProgram.expected(bytes);
-        WordChain x = Checks.cut(bytes);
+        Checks.feed(x, bytes);
+        x.cut();
         String name = show(bytes);
         compareCounts(name, x, want);
         for (int i = 0; i < want.tokens().size() && i < x.count(1); i++) {

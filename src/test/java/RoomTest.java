@@ -4,6 +4,7 @@ import java.lang.management.ManagementFactory;
 /** All memory is the class's own rows, used again: calls make nothing. */
 final class RoomTest {
     public static void main(String[] args) {
+        Checks.about("All memory is the class's own rows, used again");
         ThreadMXBean threads = (ThreadMXBean) ManagementFactory.getThreadMXBean();
         long self = Thread.currentThread().getId();
         useAll(new WordChain());

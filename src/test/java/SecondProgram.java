@@ -36,6 +36,17 @@ final class SecondProgram {
     private SecondProgram() {
     }
 
+    static List<String> endings() {
+        List<String> all = new ArrayList<>(List.of("sses", "ies", "ss", "s", "eed", "ed", "ing", "y", "e", "ll"));
+        all.addAll(List.of("ated", "bling", "izing", "pped", "lled"));
+        for (String[] list : List.of(STEP_2, STEP_3, STEP_4)) {
+            for (String entry : list) {
+                all.add(entry.split(" ")[0]);
+            }
+        }
+        return all;
+    }
+
     static Expected expected(byte[] bytes) {
         StringBuilder text = new StringBuilder();
         int characters = decode(bytes, text);

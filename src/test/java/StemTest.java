@@ -114,6 +114,7 @@ final class StemTest {
         for (char c : VOWELS.toCharArray()) {
             stems("bu" + c + "ing bu" + c + "  b" + c + "king b" + c + "ke  e" + c + "king e" + c + "k");
         }
+        stems("abuaing abua  abuae abua  abuee abue  abaaing abaa  abiae abia");
         stems("oming om  aping ap  ope op  ooming oom  oome oom  bukking buk  bulking bulk  bulke bulk");
         stems("yoking yoke  typing type  yoke yoke  type type  yyking yyke  ayking ayk");
         stems("snowing snow  boxed box  playing plai  saving save  hoped hope");
@@ -192,30 +193,39 @@ final class StemTest {
         stems("bay bai  bby bby  aby abi  ayy ayi  byy byi  yby yby  yay yai  dry dry  say sai  yyby yybi");
     }
 
-    /** Rows: an ending, what is left of it behind a stem whose m is 0, and behind one whose m is 1. */
-    private static void behind(String none, String one, String rows) {
+    /** Rows: an ending, and what is left of it behind stems whose m is 0, 1 and 2; - is nothing. */
+    private static void behindStems(String rows) {
+        String[] stems = {"tr", "ab", "abab"};
         String[] words = rows.trim().split("\\s+");
-        for (int k = 0; k < words.length; k += 3) {
-            stems(none + words[k] + " " + none + words[k + 1]);
-            stems(one + words[k] + " " + one + words[k + 2].replace("-", ""));
+        for (int k = 0; k < words.length; k += 4) {
+            for (int m = 0; m < 3; m++) {
+                stems(stems[m] + words[k] + " " + stems[m] + words[k + 1 + m].replace("-", ""));
+            }
         }
     }
 
     private static void step2() {
         Checks.about("2 (m above 0): ational -> ate; tional -> tion; ..");
-        behind("tr", "ab", """
-            ational ation at   tional tional tion   enci enci enc   anci anci anc   izer izer iz
-            abli abli abl   alli alli al   entli entli ent   eli eli -   ousli ousli ous
-            ization izat iz   ation ation at   ator ator at   alism alism al   iveness ive iv
-            fulness ful -   ousness ous ous   aliti aliti al   iviti iviti iv   biliti biliti bl
+        behindStems("""
+            ational ation at -   tional tional tion t   enci enci enc -   anci anci anc -
+            izer izer iz -   abli abli abl -   alli alli al -   entli entli ent -   eli eli - -
+            ousli ousli ous -   ization izat iz -   ation ation at -   ator ator at -
+            alism alism al -   iveness ive iv -   fulness ful - -   ousness ous ous -
+            aliti aliti al -   iviti iviti iv -   biliti biliti bl bl   abiliti abil abl -
+            ativeness ativ - -   alization aliz al -   icator icat ic -
             """);
+        stems("ababonci ababonci  ababobli ababobli  ababolli ababolli  ababontli ababontli  ababoli ababoli");
+        stems("ababosli ababosli  ababotor ababotor  ababozer ababoz  ababoliti ababol  abaoness abao");
     }
 
     private static void step3() {
         Checks.about("3 (m above 0): icate -> ic; ative -> nothing; ..");
-        stems("tricate tricat  abicate abic  trative trativ  abative ab  tralize traliz  abalize abal");
-        stems("triciti triciti  abiciti abic  trical trical  abical abic  trful trful  abful ab");
-        stems("trness trness  abness ab");
+        behindStems("""
+            icate icat ic -   ative ativ - -   alize aliz al -   iciti iciti ic -
+            ical ical ic -   ful ful - -   ness ness - -
+            """);
+        stems("abbcate abbcat  abbtive abbtiv  abblize abbliz  abbciti abbciti  abbcal abbcal");
+        stems("abfol abfol  abnuss abnuss");
     }
 
     private static void step4() {
@@ -228,6 +238,9 @@ final class StemTest {
             Checks.dueTokens("babb" + ending, "0:babb" + left);
         }
         stems("ababbousli ababb  babbousli babbous  ababbousness ababb  babbousness babbous");
+        stems("ababbol ababbol  ababbonce ababbonc  ababbor ababbor  ababboc ababboc  ababboble ababbobl");
+        stems("ababbont ababbont  ababboment ababbo  ababboent ababbo  ababbiu ababbiu  ababbosm ababbosm");
+        stems("ababbote ababbot  ababboti ababboti  ababbove ababbov  ababboze ababboz  ababbtoon ababbtoon");
         Checks.about("ion just if the stem ends with s or t");
         for (char c = 'a'; c <= 'z'; c++) {
             boolean goes = c == 's' || c == 't';
